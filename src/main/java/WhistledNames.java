@@ -782,7 +782,6 @@ public final class WhistledNames {
         private final int[] came = new int[ROWS];
         private final Listener listener = new Listener();
 
-        private Gorge gorge;
         private final int[] sharedWinds = new int[MOST_NAMED * MOST_NAMED];
         private final int[] open = new int[(MOST_NAMED + 1) * MOST_NAMED];
         private final int[] chosen = new int[MOST_NAMED];
@@ -802,24 +801,52 @@ public final class WhistledNames {
         }
 
         /** Whether there are such tunes; those found are in best, all their notes in fewest. */
-        boolean find(Gorge there) {
-            if (there.people > MOST_NAMED) {
+        boolean find(Gorge gorge) {
+            if (gorge.people > MOST_NAMED) {
                 return false;
             }
             if (!ready) {
                 fillRows();
                 ready = true;
             }
-            gorge = there;
-            fewest = TOO_MANY_NOTES;
-            for (int a = 0; a < there.people; a++) {
-                open[a] = ALL_ROWS;
-                for (int b = 0; b < there.people; b++) {
-                    sharedWinds[a * MOST_NAMED + b] = there.greatestSharedWind(a, b);
+            for (int a = 0; a < gorge.people; a++) {
+                for (int b = 0; b < gorge.people; b++) {
+                    sharedWinds[a * MOST_NAMED + b] = gorge.greatestSharedWind(a, b);
                 }
             }
-            choose(0, 0);
+            // Rows that go with none of another one's are left out first: else the search is far longer.
+            for (int a = 0; a < gorge.people; a++) {
+                open[a] = rowsWithOthers(gorge, a);
+            }
+            fewest = TOO_MANY_NOTES;
+            choose(this, gorge, 0, 0);
             return fewest < TOO_MANY_NOTES;
+        }
+
+        private int rowsWithOthers(Gorge gorge, int person) {
+            int rows = 0;
+            for (int row = 0; row < ROWS; row++) {
+                boolean goes = true;
+                for (int i = 0; i < gorge.people; i++) {
+                    goes = goes && (i == person || rowsGoingWith(gorge, person, row, i) != 0);
+                }
+                rows |= goes ? 1 << row : 0;
+            }
+            return rows;
+        }
+
+        /** The rows of another one by which neither's tune is taken for the other's; alike, if they are kin. */
+        private int rowsGoingWith(Gorge gorge, int person, int row, int other) {
+            int rows = ALL_ROWS;
+            int wind = sharedWinds[person * MOST_NAMED + other];
+            if (wind != NONE) {
+                rows &= ~turnsAtRows[(gorge.ears[person] * WINDS + wind) * ROWS + row];
+                rows &= ~rowsTurning[(gorge.ears[other] * WINDS + wind) * ROWS + row];
+            }
+            if (gorge.kins[other] == gorge.kins[person]) {
+                rows &= rowsFirst(firstNote(row));
+            }
+            return rows;
         }
 
         private void fillRows() {
@@ -857,20 +884,20 @@ public final class WhistledNames {
         }
 
         /** Tries the rows in their order, so that of like choices the first one is found first. */
-        private void choose(int person, int notes) {
+        private static void choose(Namer namer, Gorge gorge, int person, int notes) {
             if (person >= gorge.people || person >= MOST_NAMED) {
-                keepBest(notes);
+                namer.keepBest(notes);
                 return;
             }
-            if (notes + leastNotesFrom(person) >= fewest) {
+            if (notes + namer.leastNotesFrom(gorge.people, person) >= namer.fewest) {
                 return;
             }
-            int rows = open[person * MOST_NAMED + person];
+            int rows = namer.open[person * MOST_NAMED + person];
             for (int row = 0; row < ROWS; row++) {
                 if ((rows >> row & 1) != 0) {
-                    chosen[person] = row;
-                    narrow(person, row);
-                    choose(person + 1, notes + (row < 4 ? 1 : 2));
+                    namer.chosen[person] = row;
+                    namer.narrow(gorge, person, row);
+                    choose(namer, gorge, person + 1, notes + (row < 4 ? 1 : 2));
                 }
             }
         }
@@ -882,9 +909,9 @@ public final class WhistledNames {
             }
         }
 
-        private int leastNotesFrom(int person) {
+        private int leastNotesFrom(int people, int person) {
             int notes = 0;
-            for (int i = person; i < gorge.people; i++) {
+            for (int i = person; i < people; i++) {
                 int rows = open[person * MOST_NAMED + i];
                 if (rows == 0) {
                     return TOO_MANY_NOTES;
@@ -894,17 +921,9 @@ public final class WhistledNames {
             return notes;
         }
 
-        private void narrow(int person, int row) {
+        private void narrow(Gorge gorge, int person, int row) {
             for (int i = person + 1; i < gorge.people; i++) {
-                int rows = open[person * MOST_NAMED + i];
-                int wind = sharedWinds[person * MOST_NAMED + i];
-                if (wind != NONE) {
-                    rows &= ~turnsAtRows[(gorge.ears[person] * WINDS + wind) * ROWS + row];
-                    rows &= ~rowsTurning[(gorge.ears[i] * WINDS + wind) * ROWS + row];
-                }
-                if (gorge.kins[i] == gorge.kins[person]) {
-                    rows &= rowsFirst(firstNote(row));
-                }
+                int rows = open[person * MOST_NAMED + i] & rowsGoingWith(gorge, person, row, i);
                 open[(person + 1) * MOST_NAMED + i] = rows;
             }
         }

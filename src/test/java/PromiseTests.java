@@ -334,6 +334,15 @@ public final class PromiseTests {
         x.from(0);
         is("images stay", x.count(0), 7);
         is("images stay", x.count(2), 1);
+        is("read again", x.read(), 4);
+        long digest = x.digest();
+        type(x, "one 0 4 0 0;one 9 4 0 0;");
+        is("refused after one that was read", x.read(), -1005);
+        x.type('?', 1);
+        is("a fault after one that was read", x.read(), -81);
+        x.clear();
+        type(x, " ".repeat(47));
+        is("nothing has changed", x.digest(), digest);
         x.clear();
         is("read of nothing", x.read(), 0);
         is("nobody", x.count(0) + x.count(1) + x.count(2), 0);
@@ -345,6 +354,16 @@ public final class PromiseTests {
         readIs("  hearss 0 1 2;", -12);
         readIs("One 0 4 0 0;", -10);
         readIs("oneX0 4 0 0;", -13);
+        readIs("onez 0 4 0 0;", -10);
+        readIs("aone 0 4 0 0;", -10);
+        readIs("gears 0 1 2;", -10);
+        readIs("hearz 0 1 2;", -10);
+        readIs("ond 0 4 0 0;", -10);
+        readIs("bead 4 0;", -10);
+        readIs("dead`4 0;", -14);
+        readIs("dead{4 0;", -14);
+        readIs("dead/4 0;", -14);
+        readIs("dead 4:0;", -16);
         readIs("7", -10);
         readIs(";", -10);
         readIs("dead 4 0;;", -19);
@@ -680,6 +699,9 @@ public final class PromiseTests {
 
     private static void namesForMany() {
         promise = 19;
+        // In wind 3 of 0 1 just 0 is left; of 1 and of 1 1 nothing is.
+        threeKin(2, 4, 16, 17);
+        threeKin(3, 5, 20, 21);
         WhistledNames x = new WhistledNames();
         for (int i = 0; i < 5; i++) {
             x.one(PLAIN, 4, 0, i % 4);
@@ -697,12 +719,31 @@ public final class PromiseTests {
         refuses("BAD ahead of NO", x, BAD, -10, () -> x.names(6));
         x.one(PLAIN, 4, 0, 0);
         refuses("seven", x, NO, -20, () -> x.names(6));
+        WhistledNames kin = new WhistledNames();
+        for (int i = 0; i < 5; i++) {
+            kin.one(PLAIN, 4, 0, 0);
+        }
+        is("five kin", kin.names(-1), 9);
+        is("the first of five kin", kin.names(0), 7);
+        is("the last of five kin", kin.names(4), 31);
         WhistledNames apart = new WhistledNames();
         for (int i = 0; i < 5; i++) {
             apart.one(BIRD, 4, i, 0);
         }
         is("five apart", apart.names(-1), 5);
         is("five apart, the last", apart.names(4), 4);
+    }
+
+    private static void threeKin(int wind, int first, int second, int third) {
+        WhistledNames x = new WhistledNames();
+        for (int i = 0; i < 3; i++) {
+            x.one(PLAIN, 4, i, 3);
+            x.hears(i, (i + 1) % 3, wind);
+        }
+        is("three kin, by wind " + wind, x.names(-1), 5);
+        is("the first of them", x.names(0), first);
+        is("the second", x.names(1), second);
+        is("the third", x.names(2), third);
     }
 
     private static void bride() {
@@ -904,7 +945,11 @@ public final class PromiseTests {
         x.clear();
         is("as it was", x.digest(), digest);
         is("status stays", x.status(1), 1);
-        x.rename(0, 7);
+        type(x, "one 5 2047 3 3;one 4 64 4 2;dead 4 1;hears 5 4 3;");
+        x.read();
+        x.whistle(3, 2047, 0);
+        x.whistle(3, 4, 0);
+        x.clear();
         is("again", x.from(1), 1);
         is("the image stays", x.digest(), digest);
         int[] wrong = {-1, 2, MAX, MIN};
