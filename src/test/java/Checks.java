@@ -1,5 +1,7 @@
 import java.util.ArrayList;
 import java.util.List;
+import java.util.Set;
+import java.util.TreeSet;
 
 /** What the tests of sentences share: their counts, gorges to begin with, and what a refused call leaves alone. */
 final class Checks {
@@ -27,6 +29,8 @@ final class Checks {
 
     static int passed = 0;
     static int failed = 0;
+    static final Set<String> failedSentences = new TreeSet<>();
+    static boolean quiet = false;
     /** Each sentence tested, or said to name no boundary case, after its section's title. */
     static final List<String[]> quotes = new ArrayList<>();
     private static String section = "";
@@ -60,7 +64,10 @@ final class Checks {
 
     static void fail(String what) {
         failed++;
-        System.out.println(section + ", \"" + sentence + "\": " + what);
+        failedSentences.add(section + ": " + sentence);
+        if (!quiet) {
+            System.out.println(section + ", \"" + sentence + "\": " + what);
+        }
     }
 
     static void is(String what, long got, long due) {
@@ -117,7 +124,7 @@ final class Checks {
             x.dead(4 + i % 4, 10 * i);
         }
         for (int i = 0; i < 8; i++) {
-            x.whistle(i % 6, 4 + i % 4, 0);
+            x.whistle(i % 7 % 6, 4 + i % 7 % 4, 0);
         }
         x.image(0);
         x.hears(5, 0, 2);

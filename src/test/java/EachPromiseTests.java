@@ -294,6 +294,9 @@ final class EachPromiseTests {
         is("the highest first: its byte above 127", x.type(0xff00000000000000L, 8), 8);
         is("it is first", x.read(), -10);
         x.clear();
+        x.type(' ' + 128, 1);
+        is("no blank, but for its highest bit", x.read(), -10);
+        x.clear();
         x.type(0x20000000000000ffL, 8);
         is("a blank, then 0", x.read(), -11);
         x.clear();
@@ -336,6 +339,7 @@ final class EachPromiseTests {
         is("one", x.clear(), 1);
         is("none left", x.count(3), 0);
         is("cleared twice", x.clear(), 0);
+        is("none is no refusal", Checks.refusedSoFar(x), 0);
         is("no FAULT of what it had", x.read(), 0);
         WhistledNames all = Checks.all();
         is("as many as can be", all.clear(), 200);
@@ -651,9 +655,10 @@ final class EachPromiseTests {
         WhistledNames seven = Checks.together(BLIND, 16, 17, 18, 4, 5, 6, 19);
         is("the last of her NOTES", seven.bride(6), 19);
         is("the last one is left to the first", seven.bride(0), 16);
-        long digest = seven.digest();
-        seven.bride(6);
-        is("she keeps hers", seven.digest(), digest);
+        WhistledNames x = Checks.withOne(PLAIN, 31);
+        long digest = x.digest();
+        is("another one", x.bride(0), 28);
+        is("she keeps hers till she is renamed", x.digest(), digest);
     }
 
     private static void brideNone() {

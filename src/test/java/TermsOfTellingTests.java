@@ -415,6 +415,9 @@ final class TermsOfTellingTests {
             x.rename(0, 31);
             x.move(0, 5);
             x.undo();
+            x.whistle(5, 2047, 0);
+            x.undo();
+            x.undo();
             x.type(0, 1);
             x.type(0, 9);
             is("IMAGE " + i, x.from(i), 1);

@@ -227,6 +227,11 @@ final class TermsOfTunesTests {
         second.one(PLAIN, 7, 0, 3);
         // The LISP one may not have 1 while another has 2, nor 2 while another has 1.
         names("one LISP one", second, 4, 4, 7, 5, 6);
+        WhistledNames last = new WhistledNames();
+        last.one(PLAIN, 7, 0, 0);
+        last.one(PLAIN, 7, 0, 1);
+        last.one(LISP, 7, 0, 2);
+        names("one LISP one, the last", last, 3, 4, 5, 7);
     }
 
     private static void namesOfKin() {
@@ -253,8 +258,13 @@ final class TermsOfTunesTests {
     private static void namesFewest() {
         says("the fewest NOTES in all;");
         is("nobody there", Checks.empty().names(-1), 0);
-        // With 0 for one of three of a KIN, the others need two NOTES that differ from it in WIND 3: 0 0 alone does.
-        // So 0 would do with 6 NOTES in all, 0 0 and others; 1 with 5.
+        WhistledNames lisping = new WhistledNames();
+        for (int i = 0; i < 4; i++) {
+            lisping.one(i == 1 ? LISP : PLAIN, 4, 0, i);
+        }
+        // 0, 1, 3, 0 0 would come first, but has 5 NOTES.
+        names("the second one has no lesser number", lisping, 4, 4, 7, 5, 6);
+        // With 0 for the first of three of a KIN, 0 1 would be 0 in WIND 3, as his is.
         WhistledNames kin = new WhistledNames();
         for (int i = 0; i < 3; i++) {
             kin.one(PLAIN, 4, 0, 2);
@@ -495,6 +505,15 @@ final class TermsOfTunesTests {
         is("the least of two", two.word(3, 0, 0, 1), 1);
         two.rename(1, tune(1, 1));
         is("by whom it takes more is not", two.word(3, 0, 0, 1), 2);
+        WhistledNames away = new WhistledNames();
+        away.one(PLAIN, tune(0), 3, 0);
+        away.one(PLAIN, tune(1), 1, 0);
+        away.one(PLAIN, tune(2), 2, 0);
+        away.one(PLAIN, tune(3), 0, 0);
+        away.hears(0, 3, 0);
+        away.hears(0, 1, 0);
+        away.hears(1, 2, 0);
+        is("a lesser one has it as soon, but is not heard", away.word(3, 2, 0, 1), 1);
         WhistledNames seven = Checks.together(PLAIN, 4, 5, 6, 7, 16, 21, 26);
         is("the last of seven", seven.word(6, 0, 0, 1), 6);
     }
