@@ -405,6 +405,13 @@ final class EachPromiseTests {
                 Checks.same("read of " + text, Checks.seen(x), Checks.seen(y));
             }
         }
+        WhistledNames x = Checks.withText("one 0 4 0 0;dead 5 1;");
+        x.read();
+        x.whistle(0, 4, 0);
+        Checks.type(x, "dead 4 0;one 9 9 9 9;");
+        long digest = x.digest();
+        is("after one that was read", x.read(), -1003);
+        is("that one stays", x.digest(), digest);
     }
 
     // ---- calls

@@ -261,6 +261,10 @@ final class TermsOfTellingTests {
         says("(a word that is none,");
         reads("hear 0 1 2;", -10);
         reads("hearss 0 1 2;", -10);
+        reads("gears 0 1 2;", -10);
+        reads("heard 0 1 2;", -10);
+        reads("bead 4 0;", -10);
+        reads("done 0 4 0 0;", -10);
         reads("  on 0 4 0 0;", -10 - 2);
         reads("ones 0 4 0 0;", -10);
         reads("dea 4 0;", -10);
@@ -425,6 +429,12 @@ final class TermsOfTellingTests {
             is("STATUS is not kept", x.status(0), 1);
             x.clear();
             is("all else is, by IMAGE " + i, x.digest(), digest);
+            Checks.type(x, "one5 31 5 3;".repeat(7) + "dead31 99;".repeat(6) + "hears0 1 3;hears5 4 3;");
+            x.read();
+            x.whistle(5, 31, 0);
+            x.clear();
+            is("IMAGE " + i + ", after another GORGE", x.from(i), 1);
+            is("all of it", x.digest(), digest);
             Checks.refused("none was kept yet", Checks::empty, Checks.NO, -3, y -> y.from(image));
         }
         for (int i : new int[] {-1, 2, Checks.MIN, Checks.MAX}) {

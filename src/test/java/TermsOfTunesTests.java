@@ -129,6 +129,12 @@ final class TermsOfTunesTests {
         is("that pair", y.clash(1), 1);
         is("each for the other's: one pair", Checks.together(PLAIN, 4, 4).clash(0), 1);
         is("neither", Checks.together(PLAIN, 4, 5).clash(0), 0);
+        WhistledNames z = Checks.together(PLAIN, 4, 4, 5);
+        is("two", z.clash(1), 1);
+        z.rename(1, 5);
+        is("two others, when one has another TUNE", z.clash(1), 12);
+        z.move(2, 1);
+        is("none, when one has gone", z.clash(0), 0);
     }
 
     private static void clashHowMany() {
