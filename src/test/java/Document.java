@@ -6,7 +6,7 @@ import java.util.LinkedHashMap;
 import java.util.List;
 import java.util.Map;
 
-/** The document's "Terms" and promises, and which of their words no test has quoted. */
+/** The document, section by section, and which of its words no test has quoted. */
 final class Document {
     private final Map<String, String> sections = new LinkedHashMap<>();
     private final Map<String, boolean[]> quoted = new LinkedHashMap<>();
@@ -14,10 +14,10 @@ final class Document {
     Document(Path path) throws IOException {
         for (String part : Files.readString(path).split("(?m)^## ")) {
             String title = part.split("\n", 2)[0];
-            if (title.equals("Terms") || title.startsWith("Promise ")) {
+            if (!title.startsWith("# ")) {
                 String text = part.substring(title.length());
                 // The interface of a promise and the marks around its text are no words of it.
-                text = text.replaceAll("```(text)?", " ").replaceAll("`[^`]*\\([^`]*\\)`:", " ");
+                text = text.replaceAll("```(text|java)?", " ").replaceAll("`[^`]*\\([^`]*\\)`:", " ");
                 String name = title.split(":")[0];
                 sections.put(name, flat(text));
                 quoted.put(name, new boolean[sections.get(name).length()]);

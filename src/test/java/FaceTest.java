@@ -1,4 +1,5 @@
 import java.io.IOException;
+import java.lang.management.ManagementFactory;
 import java.lang.reflect.Executable;
 import java.lang.reflect.Field;
 import java.lang.reflect.Method;
@@ -35,6 +36,7 @@ public final class FaceTest {
             checkClass(one, program);
         }
         checkSource(Files.readString(Path.of("src/main/java/WhistledNames.java")));
+        checkRoom();
         System.out.println("FaceTest: " + passed + " passed, " + failed + " failed");
         System.exit(failed == 0 ? 0 : 1);
     }
@@ -119,6 +121,59 @@ public final class FaceTest {
             boolean isEnd = line.matches("    ( {4})?\\}");
             if (isEnd) {
                 is("a method of " + lines + " lines", lines <= 60);
+            }
+        }
+    }
+
+    /** The calls of one run share one room, so a call should make nothing: the objects are made with the first one. */
+    private static void checkRoom() {
+        com.sun.management.ThreadMXBean room = (com.sun.management.ThreadMXBean) ManagementFactory.getThreadMXBean();
+        long thread = Thread.currentThread().getId();
+        long least = Long.MAX_VALUE;
+        // What the machine makes for itself, as when it loads a class, is seen in the first rounds alone.
+        for (int round = 0; round < 5; round++) {
+            WhistledNames x = new WhistledNames();
+            long before = room.getThreadAllocatedBytes(thread);
+            callAll(x);
+            least = Math.min(least, room.getThreadAllocatedBytes(thread) - before);
+        }
+        is("calls make no objects, or few: " + least + " bytes", least < 2048);
+    }
+
+    private static void callAll(WhistledNames x) {
+        for (int i = 0; i < 15; i++) {
+            x.hears(i % 6, (i + 1) % 6, i % 4);
+            x.one(i % 6, 16 + i, i % 6, i % 4);
+            x.rename(i, 20 + i);
+            x.move(i, i % 3);
+            x.dead(16 + i, 6 * i);
+            x.comes(100, i % 4);
+            x.type('a' + i, 1 + i % 8);
+            x.read();
+            x.clear();
+            x.type(0x6465616420342035L, 8);
+            x.type(';', 1);
+            x.call(0, 16 + i, i % 4);
+            x.whistle(0, 16 + i, i % 4);
+            x.turned(i);
+            x.heardOf(i);
+            x.undo();
+            x.taken(0, i);
+            x.clash(i % 3);
+            x.alter();
+            x.names(WhistledNames.NONE);
+            x.bride(i);
+            x.thief(0, i % 4, i);
+            x.whistled(0, i % 4, i, 0);
+            x.word(i, 0, i % 4, 0);
+            x.free(i, 99);
+            x.image(i % 2);
+            x.from(i % 3);
+            x.status(i % 4);
+            x.count(i % 5);
+            x.digest();
+            if (i > 8) {
+                x.read();
             }
         }
     }

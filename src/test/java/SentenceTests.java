@@ -4,9 +4,9 @@ import java.nio.file.Path;
 import java.util.Set;
 
 /**
- * For each sentence of "Terms" and of the promises that names a boundary case a test of its own, which tells the
- * sentence in the document's words. Run in the project's folder: then it is also seen that each word of these
- * sections is quoted by a test, or below as one of a sentence that names no boundary case.
+ * For each sentence of the document that names a boundary case a test of its own, which tells the sentence in the
+ * document's words. Run in the project's folder: then it is also seen that each word of the document is quoted by a
+ * test, or below as one of a sentence that names no boundary case.
  */
 public final class SentenceTests {
     private SentenceTests() {
@@ -21,6 +21,7 @@ public final class SentenceTests {
     }
 
     private static void runAll() {
+        WhatItIsTests.run();
         TermsOfCallsTests.run();
         TermsOfTunesTests.run();
         TermsOfTellingTests.run();
@@ -47,6 +48,10 @@ public final class SentenceTests {
                 + "`whistled`, `word`, `free` the interface says: ---- tunes for all.");
         Checks.namesNoBoundary("Terms", "Ahead of the calls `image`, `from`, `status`, `count`, `digest` the interface "
                 + "says: ---- what there is.");
+        Checks.namesNoBoundary("Not promised", "How the state is held inside the object is free, as are the speed of "
+                + "each call, the text of toString and the behaviour of equals and hashCode. Use of one object from "
+                + "several threads at once is not promised to be safe. Nothing is promised beyond the answers and state "
+                + "changes described above, and nothing about an object after its 512th call.");
     }
 
     private static void compareWithDocument(Path path) throws IOException {
@@ -55,8 +60,8 @@ public final class SentenceTests {
             return;
         }
         Document document = new Document(path);
-        Checks.says("DOC.md", "Terms and promises 1 to 29");
-        Checks.is("how many sections", document.sections(), 30);
+        Checks.says("DOC.md", "What it is, the public face, terms, promises 1 to 29, not promised");
+        Checks.is("how many sections", document.sections(), 33);
         Checks.quotes.remove(Checks.quotes.size() - 1);
         for (String[] quote : Checks.quotes) {
             boolean stands = document.quote(quote[0], quote[1]);
