@@ -12,9 +12,13 @@ import java.util.stream.Stream;
 
 /** README.md's example answers as is told there, and its commands work. Run in the project's folder. */
 public final class ReadmeTest {
-    /** The one that runs this test, and those that README.md says take longer than it should. */
+    /**
+     * The one that runs this test; those that README.md says take longer than it should; and those of a test under
+     * ../shared/tests, for .ci/run runs all that are there, whatever their names.
+     */
     private static final Set<String> NOT_RUN_HERE = Set.of("bash .ci/run", "java -cp out RandomRuns 2000",
-            "java -cp out Mutants out");
+            "java -cp out Mutants out", "java -cp out WhistledNamesRuns",
+            "javac -d out src/main/java/WhistledNames.java ../shared/tests/WhistledNamesRuns.java");
     private static final Pattern TOLD = Pattern.compile("\\s*System\\.out\\.println\\((.*)\\);\\s*// (-?\\d+): \\S.*");
     private static final long PATIENCE_SECONDS = 300;
 
